@@ -1,0 +1,31 @@
+/** Compares answers with those that are due, and ends a test. */
+final class Check {
+    private static int compared = 0;
+    private static int wrong = 0;
+
+    private Check() {
+    }
+
+    static void due(String call, long got, long want) {
+        compared++;
+        if (got != want) {
+            wrong++;
+            System.out.println(call + " answered " + got + ", due is " + want);
+        }
+    }
+
+    static void holds(String what, boolean holds) {
+        due(what, holds ? 1 : 0, 1);
+    }
+
+    static boolean anyWrong() {
+        return wrong > 0;
+    }
+
+    static void end() {
+        System.out.println(compared + " answers compared, " + wrong + " not as due");
+        if (wrong > 0 || compared == 0) {
+            System.exit(1);
+        }
+    }
+}
