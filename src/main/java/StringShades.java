@@ -733,15 +733,35 @@ public final class StringShades {
         }
     }
 
-    /** The search for the least pulls; its rows are made once, as each call would need them. */
+    /**
+     * The search for the least pulls. Each told shade is an equation: the steps of all strings, each
+     * times its effect on the shade, make up what the shade needs. The rows are made once.
+     */
     private static final class Pulls {
         private static final int TOO_MUCH = MOST_STRINGS * MOST_STEPS + 1;
 
-        /** For each shade how much higher it is to stand. */
+        /** What the equations still need behind the steps that are being tried. */
         private final int[] needs = new int[MOST_SHADES];
+        private final int[] effects = new int[MOST_STRINGS * MOST_SHADES];
+        /** By how much the strings behind a string can change an equation. */
+        private final int[] reaches = new int[MOST_STRINGS * MOST_SHADES];
         private final int[] tried = new int[MOST_STRINGS];
         private final int[] best = new int[MOST_STRINGS];
+        private int equations = 0;
+        private int strings = 0;
         private int leastSum = TOO_MUCH;
+
+        /** Answers the least sum, or NOT_FOUND. */
+        int find(House house) {
+            leastSum = TOO_MUCH;
+            writeEquations(house);
+            search(this, 0, 0);
+            return leastSum < TOO_MUCH ? leastSum : NOT_FOUND;
+        }
+
+        int stepsOf(int string) {
+            return at(best, string);
+        }
 
         private static int at(int[] row, int place) {
             return place >= 0 && place < row.length ? row[place] : 0;
@@ -753,51 +773,64 @@ public final class StringShades {
             }
         }
 
-        /** Answers the least sum, or NOT_FOUND. */
-        int find(House house) {
-            leastSum = TOO_MUCH;
-            for (int shade = 0; shade < house.shades(); shade++) {
-                boolean told = house.isTold(shade);
-                int height = house.ofShade(shade, House.HEIGHT);
-                put(needs, shade, told ? house.ofShade(shade, House.TOLD) - height : 0);
-            }
-            search(this, house, 0, 0);
-            return leastSum < TOO_MUCH ? leastSum : NOT_FOUND;
+        private static int cell(int string, int equation) {
+            return string * MOST_SHADES + equation;
         }
 
-        int stepsOf(int string) {
-            return at(best, string);
+        private void writeEquations(House house) {
+            equations = 0;
+            strings = house.strings();
+            for (int shade = 0; shade < house.shades(); shade++) {
+                if (house.isTold(shade)) {
+                    int need = house.ofShade(shade, House.TOLD) - house.ofShade(shade, House.HEIGHT);
+                    put(needs, equations, need);
+                    writeEffects(house, shade);
+                    equations++;
+                }
+            }
+        }
+
+        private void writeEffects(House house, int shade) {
+            int reach = 0;
+            // from the last string on, as the reach adds up behind each
+            for (int string = strings - 1; string >= 0; string--) {
+                int up = house.ofString(string, House.UP) >> shade & 1;
+                int down = house.ofString(string, House.DOWN) >> shade & 1;
+                put(effects, cell(string, equations), up - down);
+                put(reaches, cell(string, equations), reach);
+                reach += MOST_STEPS * (up + down);
+            }
         }
 
         // from the lowest steps on, so that of several with the least sum the first one found is due
-        private static void search(Pulls pulls, House house, int string, int sum) {
-            int farthest = pulls.farthest(house);
-            // a step brings a shade nearer by 1 at most
-            if (sum + farthest >= pulls.leastSum) {
+        private static void search(Pulls pulls, int string, int sum) {
+            int greatest = pulls.greatestNeed();
+            // a step brings an equation nearer by 1 at most
+            if (sum + greatest >= pulls.leastSum) {
                 return;
             }
-            if (string >= house.strings() || string >= MOST_STRINGS) {
-                if (farthest == 0) {
+            if (string >= pulls.strings || string >= MOST_STRINGS) {
+                if (greatest == 0) {
                     pulls.keepBest(sum);
                 }
                 return;
             }
-            int highest = pulls.mostSteps(house, string, 1);
-            int lowest = -pulls.mostSteps(house, string, -1);
+            int highest = pulls.mostSteps(string, 1);
+            int lowest = -pulls.mostSteps(string, -1);
             for (int steps = lowest; steps <= highest; steps++) {
                 put(pulls.tried, string, steps);
-                pulls.approach(house, string, steps);
-                search(pulls, house, string + 1, sum + Math.abs(steps));
-                pulls.approach(house, string, -steps);
+                pulls.approach(string, steps);
+                search(pulls, string + 1, sum + Math.abs(steps));
+                pulls.approach(string, -steps);
             }
         }
 
-        private int farthest(House house) {
-            int farthest = 0;
-            for (int shade = 0; shade < house.shades(); shade++) {
-                farthest = Math.max(farthest, Math.abs(at(needs, shade)));
+        private int greatestNeed() {
+            int greatest = 0;
+            for (int equation = 0; equation < equations; equation++) {
+                greatest = Math.max(greatest, Math.abs(at(needs, equation)));
             }
-            return farthest;
+            return greatest;
         }
 
         private void keepBest(int sum) {
@@ -805,49 +838,32 @@ public final class StringShades {
             System.arraycopy(tried, 0, best, 0, MOST_STRINGS);
         }
 
-        private void approach(House house, int string, int steps) {
-            for (int shade = 0; shade < house.shades(); shade++) {
-                if (house.isTold(shade)) {
-                    put(needs, shade, at(needs, shade) - steps * effect(house, string, shade));
-                }
+        private void approach(int string, int steps) {
+            for (int equation = 0; equation < equations; equation++) {
+                int effect = at(effects, cell(string, equation));
+                put(needs, equation, at(needs, equation) - steps * effect);
             }
-        }
-
-        private static int effect(House house, int string, int shade) {
-            int up = house.ofString(string, House.UP) >> shade & 1;
-            int down = house.ofString(string, House.DOWN) >> shade & 1;
-            return up - down;
         }
 
         /**
-         * The most steps that way that leave no shade farther off than the strings behind this one
-         * reach; less than any if there are none. A string that moves no told shade need not move.
+         * The most steps that way (1 or -1) which leave each equation within reach of the strings
+         * behind; fewer than there can be if no steps do. A string without any effect need not move.
          */
-        private int mostSteps(House house, int string, int way) {
+        private int mostSteps(int string, int way) {
             int most = MOST_STEPS;
-            boolean free = true;
-            for (int shade = 0; shade < house.shades(); shade++) {
-                if (house.isTold(shade)) {
-                    int effect = effect(house, string, shade);
-                    int need = at(needs, shade);
-                    int reach = reachBehind(house, string, shade);
-                    if (effect != 0) {
-                        most = Math.min(most, way * effect * need + reach);
-                        free = false;
-                    } else if (Math.abs(need) > reach) {
-                        return -MOST_STEPS - 1;
-                    }
+            boolean hasEffect = false;
+            for (int equation = 0; equation < equations; equation++) {
+                int effect = at(effects, cell(string, equation));
+                int need = at(needs, equation);
+                int reach = at(reaches, cell(string, equation));
+                if (effect != 0) {
+                    hasEffect = true;
+                    most = Math.min(most, way * effect * need + reach);
+                } else if (Math.abs(need) > reach) {
+                    return -MOST_STEPS - 1;
                 }
             }
-            return free ? 0 : most;
-        }
-
-        private static int reachBehind(House house, int string, int shade) {
-            int reach = 0;
-            for (int behind = string + 1; behind < house.strings(); behind++) {
-                reach += MOST_STEPS * Math.abs(effect(house, behind, shade));
-            }
-            return reach;
+            return hasEffect ? most : 0;
         }
     }
 

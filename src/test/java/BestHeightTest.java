@@ -1,0 +1,50 @@
+/** Promise 16: bestHeight. */
+public final class BestHeightTest {
+    public static void main(String[] arguments) {
+        StringShades x = new StringShades();
+        Check.due("no shade", x.bestHeight(0, 0), Check.INVALID);
+        x.shade(12, 18);
+        Check.due("shade -1", x.bestHeight(-1, 0), Check.INVALID);
+        Check.due("shade 1", x.bestHeight(1, 0), Check.INVALID);
+        Check.due("what -1", x.bestHeight(0, -1), Check.INVALID);
+        Check.due("what 2", x.bestHeight(0, 2), Check.INVALID);
+        Check.due("least numbers", x.bestHeight(Integer.MIN_VALUE, Integer.MIN_VALUE), Check.INVALID);
+        Check.due("greatest numbers", x.bestHeight(Integer.MAX_VALUE, Integer.MAX_VALUE), Check.INVALID);
+
+        // in 7 hours the strengths are 3, 6, 9, 12, 9, 6, 3
+        x.set(1, 0);
+        best(x, 0, 0, 2);
+        x.set(1, 4);
+        // at 2 the light is 7, 14, 21, 28, so 14 and 21 are within 4 of 18, in two hours each
+        best(x, 0, 2, 4);
+
+        x.shade(0, 0);
+        x.set(1, 0);
+        // at 7 the lowest light is 2, at 8 it is 1, but 9 is dark all day
+        best(x, 1, 9, 24);
+        x.set(1, 1);
+        // at 8 the light is 1, 2, 3, 4: only 1 is within 1 of 0
+        best(x, 1, 9, 24);
+        x.set(1, 4);
+        best(x, 1, 8, 24);
+        x.set(1, 36);
+        best(x, 1, 0, 24);
+
+        x.shade(23, 36);
+        x.set(1, 0);
+        best(x, 2, 0, 1);
+        x.string(4, 0);
+        x.pull(0, 9);
+        x.pass(5);
+        best(x, 2, 0, 1);
+        x.shade(3, 35);
+        best(x, 3, 0, 0);
+        Check.due("reading is no change", x.undo(), 3);
+        Check.end();
+    }
+
+    private static void best(StringShades x, int shade, int height, int hours) {
+        Check.due("the best height of " + shade, x.bestHeight(shade, 0), height);
+        Check.due("the hours of " + shade, x.bestHeight(shade, 1), hours);
+    }
+}
