@@ -399,8 +399,9 @@ public final class StringShades {
             return hasShade(shade) && ofShade(shade, TOLD) != NOT_TOLD;
         }
 
+        // NOT_TOLD is no height, so that a shade that is told nothing stands nowhere
         boolean isStanding(int shade) {
-            return isTold(shade) && ofShade(shade, HEIGHT) == ofShade(shade, TOLD);
+            return ofShade(shade, HEIGHT) == ofShade(shade, TOLD);
         }
 
         boolean isTangled(int shade) {

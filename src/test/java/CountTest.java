@@ -37,6 +37,24 @@ public final class CountTest {
         Check.due("five are told", x.count(7), 5);
         Check.due("two stand", x.count(8), 2);
         Check.due("those that stand are not counted as tangled", x.count(9), 2);
+
+        StringShades y = Check.withShades(3);
+        y.string(7, 0);
+        y.string(1, 2);
+        y.pull(0, 4);
+        y.pull(1, 2);
+        Check.due("one knot", y.count(2), 1);
+        Check.due("of depth 1", y.count(3), 1);
+        y.tell(0, 0);
+        Check.due("astray and tangled", y.count(9), 1);
+        y.tell(2, 0);
+        Check.due("astray alone", y.count(9), 1);
+        y.tell(1, 0);
+        Check.due("both of the knot", y.count(9), 2);
+        y.tell(0, 6);
+        Check.due("one of them stands", y.count(9), 1);
+        y.untell();
+        Check.due("tangled alone", y.count(9), 0);
         Check.end();
     }
 }

@@ -67,6 +67,9 @@ public final class FaultTest {
         badForm(x, "0", 0, 0);
         badForm(x, "p", 0, 0);
         badForm(x, "pul", 0, 0);
+        badForm(x, "bull 0 1;", 0, 0);
+        badForm(x, "pill 0 1;", 0, 0);
+        badForm(x, "puls 0 1;", 0, 0);
         badForm(x, "pul 0 1;", 0, 0);
         badForm(x, "pulls 0 1;", 0, 0);
         badForm(x, "pullz", 0, 0);

@@ -5,6 +5,7 @@ public final class LeastPullsTest {
         nothingTold();
         oneWay();
         ofSeveralTheLowest();
+        allOfAll();
         noneReach();
         heightsDoNotEnd();
         really();
@@ -44,6 +45,9 @@ public final class LeastPullsTest {
         all(x, 0);
         x.tell(1, 1);
         none(x, 0);
+        x.tell(0, 1);
+        x.tell(1, 0);
+        none(x, 0);
         x.untell();
         x.string(1, 2);
         x.string(2, 1);
@@ -64,6 +68,14 @@ public final class LeastPullsTest {
         x.tell(2, 5);
         all(x, 5, 0, 0, 0, 5);
         Check.due("as it is", x.reallyDo(), 1);
+        x.tell(2, 6);
+        all(x, 6, 0, 0, -1, 5);
+        Check.due("by 1, and let go", x.reallyDo(), 1);
+        x.tell(0, 6);
+        x.tell(2, 5);
+        all(x, 6, 1, 0, 0, 5);
+        Check.due("by 1", x.reallyDo(), 1);
+        x.tell(0, 5);
         x.tell(2, 3);
         all(x, 7, 0, 0, 2, 5);
         Check.due("2 cannot go down ahead of going up", x.reallyDo(), 0);
@@ -99,6 +111,26 @@ public final class LeastPullsTest {
         y.tell(0, 1);
         y.tell(1, 4);
         all(y, 4, 1, 0, 0, 3);
+    }
+
+    private static void allOfAll() {
+        StringShades x = Check.withShades(8);
+        x.string(0x11, 0);
+        x.string(0x22, 0);
+        x.string(0, 0x44);
+        x.string(0x80, 0x08);
+        for (int shade = 0; shade < 8; shade++) {
+            x.tell(shade, 9);
+        }
+        none(x, 4);
+        x.pull(3, -9);
+        x.tell(3, 0);
+        all(x, 36, 9, 9, -9, 9);
+        Check.due("up and let go", x.reallyDo(), 1);
+        x.tell(7, 0);
+        none(x, 4);
+        x.tell(3, 9);
+        all(x, 27, 9, 9, -9, 0);
     }
 
     private static void noneReach() {

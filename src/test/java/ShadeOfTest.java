@@ -6,7 +6,7 @@ public final class ShadeOfTest {
         x.shade(7, 20);
         x.shade(9, 10);
         x.shade(12, 30);
-        x.shade(23, 40 - 5);
+        x.shade(23, 35);
         Check.due("shade -1", x.shadeOf(-1, 0), Check.INVALID);
         Check.due("shade 4", x.shadeOf(4, 0), Check.INVALID);
         Check.due("what -1", x.shadeOf(0, -1), Check.INVALID);
@@ -27,7 +27,7 @@ public final class ShadeOfTest {
         x.tell(1, 5);
         x.tell(2, 2);
         x.tell(3, 9);
-        Check.due("open and well at 3 and 6", x.pass(3), 2 + 1 + 0 + 0);
+        Check.due("0 is well once, 1 twice", x.pass(3), 3);
         all(x, 0, 4, 7, 20, 0, 1, 10, 15 + 20 + 15, 1, 4, 1);
         all(x, 1, 6, 9, 10, 2, 6, 12, 3 + 6 + 9, 2, 5, 2);
         all(x, 2, 2, 12, 30, 0, 6, 7, 0, 0, 2, 1);
@@ -38,7 +38,20 @@ public final class ShadeOfTest {
         x.tell(0, 0);
         Check.due("a neighbor of the tangled is not", x.shadeOf(0, 9), 0);
         Check.due("reading is no change", x.undo(), 3);
+        aKnotOfDepthOne();
         Check.end();
+    }
+
+    private static void aKnotOfDepthOne() {
+        StringShades x = Check.withShades(2);
+        x.string(3, 0);
+        x.string(1, 2);
+        x.pull(0, 4);
+        x.pull(1, 2);
+        x.tell(0, 0);
+        x.tell(1, 0);
+        all(x, 0, 6, 6, 18, 1, 3, 12, 0, 0, 0, 2);
+        all(x, 1, 2, 6, 18, 0, 3, 28, 0, 0, 0, 2);
     }
 
     private static void all(StringShades x, int shade, int... due) {

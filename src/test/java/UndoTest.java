@@ -11,6 +11,10 @@ public final class UndoTest {
     private static void keepsFour() {
         StringShades x = new StringShades();
         Check.due("nothing to take back", x.undo(), Check.IMPOSSIBLE);
+        x.pass(2);
+        Check.due("back to the beginning", x.undo(), 0);
+        Check.due("the hour of a new object", x.count(5), 6);
+        Check.due("the setting of a new object", x.count(20), 4);
         for (int shade = 0; shade < 6; shade++) {
             x.shade(shade, 0);
             Check.due("states", x.count(11), Math.min(shade + 1, 4));
