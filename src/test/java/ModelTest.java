@@ -13,6 +13,7 @@ public final class ModelTest {
     private final String name;
     private final boolean oftenLeast;
     private String toType = "";
+    private boolean toPlay = false;
 
     private ModelTest(int seed) {
         random = new Random(seed);
@@ -23,15 +24,32 @@ public final class ModelTest {
 
     public static void main(String[] arguments) {
         for (int seed = 1; seed <= RUNS && !Check.anyWrong(); seed++) {
-            new ModelTest(seed).run();
+            new ModelTest(seed).run(seed % 5 != 0);
         }
         Check.end();
     }
 
-    private void run() {
-        for (int call = 1; call <= CALLS && !Check.anyWrong(); call++) {
+    private void run(boolean prepared) {
+        int made = prepared ? prepare() : 0;
+        for (int call = made + 1; call <= CALLS && !Check.anyWrong(); call++) {
             one(call);
         }
+    }
+
+    /** Shades in the middle of their ways, where knots come soon; answers the number of calls. */
+    private int prepare() {
+        int shades = 2 + upTo(6);
+        for (int shade = 0; shade < shades; shade++) {
+            int hour = upTo(23);
+            int want = upTo(36);
+            due(0, "shade(" + hour + ", " + want + ")", program.shade(hour, want), model.shade(hour, want));
+        }
+        int all = (1 << shades) - 1;
+        int difference = 1 + upTo(3);
+        due(0, "string(" + all + ", 0)", program.string(all, 0), model.string(all, 0));
+        due(0, "pull(0, 5)", program.pull(0, 5), model.pull(0, 5));
+        due(0, "set(0, " + difference + ")", program.set(0, difference), model.set(0, difference));
+        return shades + 3;
     }
 
     private int upTo(int most) {
@@ -61,6 +79,18 @@ public final class ModelTest {
         return near(0, Math.max(0, model.count(1) - 1));
     }
 
+    /** A shade with a knot behind it, else the one given. */
+    private int aKnot(int shade) {
+        int many = model.count(0);
+        int first = many == 0 ? 0 : upTo(many - 1);
+        for (int i = 0; i < many; i++) {
+            if (model.shadeOf((first + i) % many, 3) > 0) {
+                return (first + i) % many;
+            }
+        }
+        return shade;
+    }
+
     private int steps() {
         int steps = near(-9, 9);
         return steps == 0 && upTo(9) > 0 ? 1 : steps;
@@ -71,10 +101,16 @@ public final class ModelTest {
     }
 
     private void one(int call) {
-        if (!toType.isEmpty() && upTo(20) > 0) {
+        if (!toType.isEmpty() && upTo(60) > 0) {
             int sign = toType.charAt(0);
             toType = toType.substring(1);
+            toPlay = toType.isEmpty();
             due(call, "type(" + sign + ")", program.type(sign), model.type(sign));
+            return;
+        }
+        if (toPlay) {
+            toPlay = false;
+            playAll(call);
             return;
         }
         if (call < 40 && upTo(2) == 0) {
@@ -111,6 +147,7 @@ public final class ModelTest {
             int steps = steps();
             due(call, "pull(" + string + ", " + steps + ")", program.pull(string, steps), model.pull(string, steps));
         } else if (kind < 25) {
+            shade = upTo(5) > 0 ? aKnot(shade) : shade;
             due(call, "untie(" + shade + ")", program.untie(shade), model.untie(shade));
         } else if (kind < 31) {
             int height = near(0, 9);
@@ -122,7 +159,7 @@ public final class ModelTest {
             due(call, "pass(" + hours + ")", program.pass(hours), model.pass(hours));
         } else if (kind < 40) {
             int what = near(0, 1);
-            int value = upTo(1) == 0 ? near(0, 36) : near(1, 4);
+            int value = upTo(2) == 0 ? near(0, 36) : near(1, 3);
             due(call, "set(" + what + ", " + value + ")", program.set(what, value), model.set(what, value));
         } else if (kind < 43) {
             due(call, "undo()", program.undo(), model.undo());
@@ -177,6 +214,9 @@ public final class ModelTest {
             int sign = near(32, 126);
             due(call, "type(" + sign + ")", program.type(sign), model.type(sign));
         } else if (kind < 92) {
+            if (upTo(9) > 0) {
+                due(call, "clearText()", program.clearText(), model.clearText());
+            }
             toType = orders();
         } else if (kind < 96) {
             int what = near(0, 2);
@@ -186,16 +226,18 @@ public final class ModelTest {
         }
     }
 
+    private void playAll(int call) {
+        for (int what = 0; what <= 2; what++) {
+            due(call, "fault(" + what + ")", program.fault(what), model.fault(what));
+        }
+        due(call, "play()", program.play(), model.play());
+    }
+
     private String orders() {
         StringBuilder orders = new StringBuilder();
         int many = 1 + upTo(4);
         for (int i = 0; i < many; i++) {
-            String[] words = {"pull # #;", "drop # #;", "untie #;", "tell # #;", "pass #;"};
-            String form = words[upTo(4)];
-            for (char sign : form.toCharArray()) {
-                int most = upTo(3) == 0 ? 9 : 3;
-                orders.append(sign == '#' ? (char) ('0' + upTo(most)) : sign);
-            }
+            orders.append(order());
         }
         int chance = upTo(5);
         int place = upTo(orders.length() - 1);
@@ -207,5 +249,26 @@ public final class ModelTest {
             orders.deleteCharAt(place);
         }
         return orders.toString();
+    }
+
+    private String order() {
+        switch (upTo(8)) {
+            case 0: return "untie " + digit(aKnot(0)) + ";";
+            case 1: return "pass " + digit(1 + upTo(8)) + ";";
+            case 2: return "tell " + digit(upTo(Math.max(0, model.count(0) - 1))) + " " + upTo(9) + ";";
+            case 3:
+            case 4:
+            case 5: return "drop " + aCord() + " " + digit(1 + upTo(8)) + ";";
+            default: return "pull " + aCord() + " " + digit(1 + upTo(8)) + ";";
+        }
+    }
+
+    private int aCord() {
+        return digit(upTo(Math.max(0, model.count(1) - 1)));
+    }
+
+    /** The digit, at times another one. */
+    private int digit(int digit) {
+        return upTo(30) == 0 ? upTo(9) : digit;
     }
 }
