@@ -1,7 +1,7 @@
 /** Promise 16: bestHeight. */
 public final class BestHeightTest {
     public static void main(String[] arguments) {
-        StringShades x = new StringShades();
+        Used x = new Used();
         Check.due("no shade", x.bestHeight(0, 0), Check.INVALID);
         x.shade(12, 18);
         Check.due("shade -1", x.bestHeight(-1, 0), Check.INVALID);
@@ -43,7 +43,7 @@ public final class BestHeightTest {
         Check.end();
     }
 
-    private static void best(StringShades x, int shade, int height, int hours) {
+    private static void best(Used x, int shade, int height, int hours) {
         Check.due("the best height of " + shade, x.bestHeight(shade, 0), height);
         Check.due("the hours of " + shade, x.bestHeight(shade, 1), hours);
     }

@@ -20,25 +20,39 @@ final class Check {
     }
 
     static void holds(String what, boolean holds) {
-        due(what, holds ? 1 : 0, 1);
-    }
-
-    /** Types all signs of a text, each of which is to be taken. */
-    static void type(StringShades shades, String signs) {
-        for (int place = 0; place < signs.length(); place++) {
-            int before = shades.count(12);
-            due("type of '" + signs.charAt(place) + "'", shades.type(signs.charAt(place)), before + 1);
+        compared++;
+        if (!holds) {
+            wrong++;
+            System.out.println(what + " does not hold");
         }
     }
 
+    /** What a word of a run stands for: an error, the ends of all numbers, or a number. */
+    static int number(String word) {
+        switch (word) {
+            case "INVALID": return INVALID;
+            case "IMPOSSIBLE": return IMPOSSIBLE;
+            case "LIMIT": return LIMIT;
+            case "NONE": return NONE;
+            case "LEAST": return Integer.MIN_VALUE;
+            case "GREATEST": return Integer.MAX_VALUE;
+            default: return Integer.parseInt(word);
+        }
+    }
+
+    /** Types all signs of a text, each of which is to be taken. */
+    static void type(Used shades, String signs) {
+        shades.typeAll(signs);
+    }
+
     /** Types a text in the place of the one that is there. */
-    static void retype(StringShades shades, String signs) {
+    static void retype(Used shades, String signs) {
         shades.clearText();
         type(shades, signs);
     }
 
-    static StringShades withShades(int many) {
-        StringShades shades = new StringShades();
+    static Used withShades(int many) {
+        Used shades = new Used();
         for (int shade = 0; shade < many; shade++) {
             due("shade", shades.shade(6, 18), shade);
         }

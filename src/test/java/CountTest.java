@@ -1,7 +1,7 @@
 /** Promise 17: count. */
 public final class CountTest {
     public static void main(String[] arguments) {
-        StringShades x = new StringShades();
+        Used x = new Used();
         Check.due("count(-1)", x.count(-1), Check.INVALID);
         for (int what = 13; what < 20; what++) {
             Check.due("count(" + what + ")", x.count(what), Check.INVALID);
@@ -38,7 +38,7 @@ public final class CountTest {
         Check.due("two stand", x.count(8), 2);
         Check.due("those that stand are not counted as tangled", x.count(9), 2);
 
-        StringShades y = Check.withShades(3);
+        Used y = Check.withShades(3);
         y.string(7, 0);
         y.string(1, 2);
         y.pull(0, 4);

@@ -1,7 +1,7 @@
 /** Promise 12: groupAt. */
 public final class GroupAtTest {
     public static void main(String[] arguments) {
-        StringShades x = new StringShades();
+        Used x = new Used();
         Check.due("place -1", x.groupAt(-1), Check.INVALID);
         Check.due("least place", x.groupAt(Integer.MIN_VALUE), Check.INVALID);
         Check.due("no group", x.groupAt(0), Check.NONE);
@@ -23,7 +23,7 @@ public final class GroupAtTest {
         Check.end();
     }
 
-    private static void all(StringShades x, int... due) {
+    private static void all(Used x, int... due) {
         for (int place = 0; place < due.length; place++) {
             Check.due("groupAt(" + place + ")", x.groupAt(place), due[place]);
         }

@@ -8,7 +8,7 @@ public final class LeastModelTest {
         int brought = 0;
         int houses = 1500;
         for (int house = 0; house < houses; house++) {
-            StringShades program = new StringShades();
+            Used program = new Used();
             Model model = new Model();
             int shades = 1 + random.nextInt(8);
             int all = (1 << shades) - 1;

@@ -12,14 +12,14 @@ public final class LeastPullsTest {
         Check.end();
     }
 
-    private static void all(StringShades x, int sum, int... steps) {
+    private static void all(Used x, int sum, int... steps) {
         Check.due("the least sum", x.leastPulls(-1), sum);
         for (int string = 0; string < steps.length; string++) {
             Check.due("the steps of " + string, x.leastPulls(string), steps[string] + 100);
         }
     }
 
-    private static void none(StringShades x, int strings) {
+    private static void none(Used x, int strings) {
         Check.due("no sum", x.leastPulls(-1), Check.NONE);
         for (int string = 0; string < strings; string++) {
             Check.due("no steps", x.leastPulls(string), Check.NONE);
@@ -28,7 +28,7 @@ public final class LeastPullsTest {
     }
 
     private static void arguments() {
-        StringShades x = Check.withShades(1);
+        Used x = Check.withShades(1);
         Check.due("no string 0", x.leastPulls(0), Check.INVALID);
         Check.due("-2", x.leastPulls(-2), Check.INVALID);
         x.string(1, 0);
@@ -38,7 +38,7 @@ public final class LeastPullsTest {
     }
 
     private static void nothingTold() {
-        StringShades x = Check.withShades(2);
+        Used x = Check.withShades(2);
         all(x, 0);
         Check.due("nothing is to do", x.reallyDo(), 1);
         x.tell(0, 0);
@@ -56,7 +56,7 @@ public final class LeastPullsTest {
     }
 
     private static void oneWay() {
-        StringShades x = Check.withShades(3);
+        Used x = Check.withShades(3);
         x.string(1, 0);
         x.string(2, 0);
         x.string(0, 4);
@@ -86,7 +86,7 @@ public final class LeastPullsTest {
     }
 
     private static void ofSeveralTheLowest() {
-        StringShades x = Check.withShades(2);
+        Used x = Check.withShades(2);
         x.string(1, 0);
         x.string(1, 0);
         x.string(0, 1);
@@ -97,7 +97,7 @@ public final class LeastPullsTest {
         all(x, 5, -5, 0, 0);
         Check.due("down at once", x.reallyDo(), 1);
 
-        StringShades y = Check.withShades(2);
+        Used y = Check.withShades(2);
         y.string(3, 0);
         y.string(1, 2);
         y.string(1, 0);
@@ -114,7 +114,7 @@ public final class LeastPullsTest {
     }
 
     private static void allOfAll() {
-        StringShades x = Check.withShades(8);
+        Used x = Check.withShades(8);
         x.string(0x11, 0);
         x.string(0x22, 0);
         x.string(0, 0x44);
@@ -134,7 +134,7 @@ public final class LeastPullsTest {
     }
 
     private static void noneReach() {
-        StringShades x = Check.withShades(2);
+        Used x = Check.withShades(2);
         x.string(1, 2);
         x.tell(0, 3);
         all(x, 3, 3);
@@ -146,7 +146,7 @@ public final class LeastPullsTest {
         all(x, 0, 0);
 
         // what 0 and 1 need is no even number together
-        StringShades y = Check.withShades(2);
+        Used y = Check.withShades(2);
         y.string(3, 0);
         y.string(1, 2);
         y.tell(0, 4);
@@ -157,7 +157,7 @@ public final class LeastPullsTest {
     }
 
     private static void heightsDoNotEnd() {
-        StringShades x = Check.withShades(2);
+        Used x = Check.withShades(2);
         x.string(1, 2);
         x.string(3, 0);
         x.tell(0, 0);
@@ -171,7 +171,7 @@ public final class LeastPullsTest {
         Check.due("up", x.reallyDo(), 1);
 
         // from each string's most steps to more than that
-        StringShades y = Check.withShades(3);
+        Used y = Check.withShades(3);
         y.string(1, 0);
         y.string(3, 0);
         y.string(2, 4);
@@ -187,7 +187,7 @@ public final class LeastPullsTest {
     }
 
     private static void really() {
-        StringShades x = Check.withShades(2);
+        Used x = Check.withShades(2);
         x.string(3, 0);
         x.string(1, 2);
         x.pull(0, 4);

@@ -3,12 +3,13 @@ import java.util.Random;
 /** Long runs of mixed calls, each answer against the model's; the seeds are fixed. */
 public final class ModelTest {
     private static final int RUNS = 400;
-    private static final int CALLS = 512;
+    private static final int CALLS = Used.MOST_CALLS;
+    private static final int TURNS = 2 * CALLS;
     private static final int[] ODD = {Integer.MIN_VALUE, Integer.MIN_VALUE + 9, -1000, -2, -1, 24,
         37, 61, 256, 1 << 30, Integer.MAX_VALUE};
 
     private final Random random;
-    private final StringShades program = new StringShades();
+    private final Used program = new Used();
     private final Model model = new Model();
     private final String name;
     private final boolean oftenLeast;
@@ -30,14 +31,17 @@ public final class ModelTest {
     }
 
     private void run(boolean prepared) {
-        int made = prepared ? prepare() : 0;
-        for (int call = made + 1; call <= CALLS && !Check.anyWrong(); call++) {
-            one(call);
+        if (prepared) {
+            prepare();
+        }
+        // a turn makes four calls at most, and at times none
+        for (int turn = 0; turn < TURNS && program.calls() + 4 <= CALLS && !Check.anyWrong(); turn++) {
+            one(program.calls() + 1);
         }
     }
 
-    /** Shades in the middle of their ways, where knots come soon; answers the number of calls. */
-    private int prepare() {
+    /** Shades in the middle of their ways, where knots come soon. */
+    private void prepare() {
         int shades = 2 + upTo(6);
         for (int shade = 0; shade < shades; shade++) {
             int hour = upTo(23);
@@ -49,7 +53,6 @@ public final class ModelTest {
         due(0, "string(" + all + ", 0)", program.string(all, 0), model.string(all, 0));
         due(0, "pull(0, 5)", program.pull(0, 5), model.pull(0, 5));
         due(0, "set(0, " + difference + ")", program.set(0, difference), model.set(0, difference));
-        return shades + 3;
     }
 
     private int upTo(int most) {

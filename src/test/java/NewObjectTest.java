@@ -6,7 +6,7 @@ public final class NewObjectTest {
         Check.due("LIMIT_REACHED", StringShades.LIMIT_REACHED, Check.LIMIT);
         Check.due("NOT_FOUND", StringShades.NOT_FOUND, Check.NONE);
 
-        StringShades x = new StringShades();
+        Used x = new Used();
         int[] counts = {0, 0, 0, 0, 0, 6, 0, 0, 0, 0, 0, 0, 0};
         for (int what = 0; what < counts.length; what++) {
             Check.due("count(" + what + ")", x.count(what), counts[what]);
@@ -19,7 +19,7 @@ public final class NewObjectTest {
         Check.due("no history", x.undo(), Check.IMPOSSIBLE);
         Check.due("no fault", x.fault(0), Check.NONE);
 
-        StringShades other = Check.withShades(2);
+        Used other = Check.withShades(2);
         Check.due("objects are apart", x.count(0), 0);
         Check.due("objects are apart", other.count(0), 2);
         Check.end();

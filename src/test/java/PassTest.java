@@ -10,7 +10,7 @@ public final class PassTest {
     }
 
     private static void arguments() {
-        StringShades x = Check.withShades(1);
+        Used x = Check.withShades(1);
         Check.due("-1 hours", x.pass(-1), Check.INVALID);
         Check.due("0 hours", x.pass(0), Check.INVALID);
         Check.due("25 hours", x.pass(25), Check.INVALID);
@@ -18,7 +18,7 @@ public final class PassTest {
         Check.due("greatest number", x.pass(Integer.MAX_VALUE), Check.INVALID);
         Check.due("no hour went by", x.count(6), 0);
         Check.due("errors record nothing", x.count(11), 1);
-        StringShades none = new StringShades();
+        Used none = new Used();
         Check.due("without shades", none.pass(1), 0);
         Check.due("it is later", none.count(5), 7);
         Check.due("an hour so far", none.count(6), 1);
@@ -26,7 +26,7 @@ public final class PassTest {
     }
 
     private static void addsLight() {
-        StringShades x = new StringShades();
+        Used x = new Used();
         x.shade(8, 0);
         x.string(1, 0);
         int[] strengths = {6, 9, 12, 9, 6, 3, 0, 0};
@@ -37,7 +37,7 @@ public final class PassTest {
             light += 3 * strengths[hour];
             Check.due("the light so far", x.shadeOf(0, 6), light);
         }
-        StringShades y = new StringShades();
+        Used y = new Used();
         y.shade(7, 0);
         y.string(1, 0);
         y.pull(0, 2);
@@ -54,7 +54,7 @@ public final class PassTest {
     }
 
     private static void countsWellPlants() {
-        StringShades x = new StringShades();
+        Used x = new Used();
         // from 6 on the light of 0 is 36, 27, 18, 9, 0
         x.shade(6, 22);
         x.shade(6, 32);
@@ -77,7 +77,7 @@ public final class PassTest {
     }
 
     private static void roundTheClock() {
-        StringShades x = new StringShades();
+        Used x = new Used();
         x.shade(1, 0);
         x.shade(22, 0);
         x.pass(16);
@@ -96,7 +96,7 @@ public final class PassTest {
     }
 
     private static void reachesTheLimit() {
-        StringShades x = new StringShades();
+        Used x = new Used();
         Check.type(x, "pass 9;pass 9;pass 9;pass 9;pass 9;pass 9;pass 9;pass 9;");
         for (int day = 0; day < 277; day++) {
             Check.due("72 hours", x.play(), 8);

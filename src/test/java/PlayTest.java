@@ -9,14 +9,14 @@ public final class PlayTest {
     }
 
     private static void empty() {
-        StringShades x = new StringShades();
+        Used x = new Used();
         Check.due("no orders", x.play(), 0);
         Check.due("a change all the same", x.count(11), 1);
         Check.due("and back", x.undo(), 0);
     }
 
     private static void doesAll() {
-        StringShades x = Check.withShades(3);
+        Used x = Check.withShades(3);
         x.string(3, 0);
         x.string(2, 1);
         x.set(0, 1);
@@ -42,7 +42,7 @@ public final class PlayTest {
         x.clearText();
         Check.due("what was done stays without it", x.count(6), 9);
 
-        StringShades y = Check.withShades(2);
+        Used y = Check.withShades(2);
         y.string(1, 0);
         y.string(2, 1);
         y.set(0, 1);
@@ -53,7 +53,7 @@ public final class PlayTest {
     }
 
     private static void doesNoneWithAFault() {
-        StringShades x = Check.withShades(2);
+        Used x = Check.withShades(2);
         x.string(3, 0);
         String[] texts = {"pull 0 4;x", "pull 0 4;pull 0", "pull 0 4;pull 1 1;", "pull 0 4;untie 0;", "untie 0;"};
         for (String text : texts) {
@@ -66,7 +66,7 @@ public final class PlayTest {
     }
 
     private static void seesTheGreenhouseAsItIs() {
-        StringShades x = Check.withShades(1);
+        Used x = Check.withShades(1);
         Check.type(x, "pull 0 4;");
         Check.due("no string yet", x.play(), Check.IMPOSSIBLE);
         x.string(1, 0);

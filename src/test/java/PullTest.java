@@ -12,14 +12,14 @@ public final class PullTest {
         Check.end();
     }
 
-    private static void heights(StringShades x, int... due) {
+    private static void heights(Used x, int... due) {
         for (int shade = 0; shade < due.length; shade++) {
             Check.due("the height of " + shade, x.shadeOf(shade, 0), due[shade]);
         }
     }
 
     private static void arguments() {
-        StringShades x = Check.withShades(1);
+        Used x = Check.withShades(1);
         Check.due("no string", x.pull(0, 1), Check.INVALID);
         x.string(1, 0);
         Check.due("string -1", x.pull(-1, 1), Check.INVALID);
@@ -34,7 +34,7 @@ public final class PullTest {
     }
 
     private static void movesAndEnds() {
-        StringShades x = Check.withShades(3);
+        Used x = Check.withShades(3);
         x.string(5, 2);
         x.string(1, 0);
         Check.due("1 is open already", x.pull(0, 1), 5);
@@ -53,7 +53,7 @@ public final class PullTest {
     }
 
     private static void letsGo() {
-        StringShades x = Check.withShades(2);
+        Used x = Check.withShades(2);
         x.string(1, 2);
         Check.due("let go, 1 goes up", x.pull(0, -9), 2);
         heights(x, 0, 9);
@@ -66,7 +66,7 @@ public final class PullTest {
     }
 
     private static void tiesAndJams() {
-        StringShades x = Check.withShades(2);
+        Used x = Check.withShades(2);
         x.string(3, 0);
         x.string(1, 2);
         Check.due("both up", x.pull(0, 5), 3);
@@ -95,7 +95,7 @@ public final class PullTest {
     }
 
     private static void tiesOnlyWhatMovesApart() {
-        StringShades x = Check.withShades(2);
+        Used x = Check.withShades(2);
         x.string(1, 0);
         x.string(2, 1);
         Check.due("one moves far from the other", x.pull(0, 9), 1);
@@ -103,7 +103,7 @@ public final class PullTest {
         Check.due("unlike ways, nearer by that", x.pull(1, 1), 3);
         Check.due("a knot all the same", x.shadeOf(0, 3), 1);
 
-        StringShades y = Check.withShades(3);
+        Used y = Check.withShades(3);
         y.string(5, 0);
         y.string(1, 4);
         y.pull(0, 5);
@@ -112,7 +112,7 @@ public final class PullTest {
     }
 
     private static void tiesByTheSetting() {
-        StringShades x = Check.withShades(2);
+        Used x = Check.withShades(2);
         x.string(3, 0);
         x.string(1, 2);
         x.set(0, 9);
@@ -126,7 +126,7 @@ public final class PullTest {
         Check.due("let go by one step", x.pull(1, -1), 3);
         Check.due("a knot", x.count(2), 1);
 
-        StringShades y = Check.withShades(2);
+        Used y = Check.withShades(2);
         y.string(3, 0);
         y.string(1, 2);
         y.set(0, 2);
@@ -138,7 +138,7 @@ public final class PullTest {
         y.pull(1, -1);
         Check.due("five jams", y.stringOf(1, 3), 5);
 
-        StringShades z = Check.withShades(2);
+        Used z = Check.withShades(2);
         z.string(3, 0);
         z.string(1, 2);
         z.set(0, 3);
@@ -150,7 +150,7 @@ public final class PullTest {
     }
 
     private static void carriesAlong() {
-        StringShades x = Check.withShades(4);
+        Used x = Check.withShades(4);
         x.string(3, 0);
         x.string(1, 2);
         x.string(1, 0);
@@ -168,7 +168,7 @@ public final class PullTest {
     }
 
     private static void severalGroups() {
-        StringShades x = Check.withShades(8);
+        Used x = Check.withShades(8);
         x.string(0xFF, 0);
         x.string(0x55, 0xAA);
         x.string(0x01, 0x80);
@@ -182,7 +182,7 @@ public final class PullTest {
         Check.due("is one jam", x.stringOf(2, 3), 1);
         Check.due("that deepens all its knots", x.count(3), 14);
 
-        StringShades y = Check.withShades(8);
+        Used y = Check.withShades(8);
         y.string(0xFF, 0);
         y.string(0x03 << 2, 0xC3);
         y.string(0x05, 0x0A);

@@ -1,7 +1,7 @@
 /** Promise 9: set. */
 public final class SetTest {
     public static void main(String[] arguments) {
-        StringShades x = new StringShades();
+        Used x = new Used();
         Check.due("setting -1", x.set(-1, 4), Check.INVALID);
         Check.due("setting 2", x.set(2, 4), Check.INVALID);
         Check.due("difference 0", x.set(0, 0), Check.INVALID);

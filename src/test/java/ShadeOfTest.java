@@ -1,7 +1,7 @@
 /** Promise 10: shadeOf. */
 public final class ShadeOfTest {
     public static void main(String[] arguments) {
-        StringShades x = new StringShades();
+        Used x = new Used();
         Check.due("no shade", x.shadeOf(0, 0), Check.INVALID);
         x.shade(7, 20);
         x.shade(9, 10);
@@ -43,7 +43,7 @@ public final class ShadeOfTest {
     }
 
     private static void aKnotOfDepthOne() {
-        StringShades x = Check.withShades(2);
+        Used x = Check.withShades(2);
         x.string(3, 0);
         x.string(1, 2);
         x.pull(0, 4);
@@ -54,7 +54,7 @@ public final class ShadeOfTest {
         all(x, 1, 2, 6, 18, 0, 3, 28, 0, 0, 0, 2);
     }
 
-    private static void all(StringShades x, int shade, int... due) {
+    private static void all(Used x, int shade, int... due) {
         for (int what = 0; what < due.length; what++) {
             Check.due("shadeOf(" + shade + ", " + what + ")", x.shadeOf(shade, what), due[what]);
         }

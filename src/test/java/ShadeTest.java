@@ -1,7 +1,7 @@
 /** Promise 2: shade. */
 public final class ShadeTest {
     public static void main(String[] arguments) {
-        StringShades x = new StringShades();
+        Used x = new Used();
         Check.due("shade(-1, 0)", x.shade(-1, 0), Check.INVALID);
         Check.due("shade(24, 0)", x.shade(24, 0), Check.INVALID);
         Check.due("shade(0, -1)", x.shade(0, -1), Check.INVALID);

@@ -1,7 +1,7 @@
 /** Promise 11: stringOf. */
 public final class StringOfTest {
     public static void main(String[] arguments) {
-        StringShades x = Check.withShades(3);
+        Used x = Check.withShades(3);
         Check.due("no string", x.stringOf(0, 0), Check.INVALID);
         x.string(1, 6);
         x.string(0, 2);

@@ -1,7 +1,7 @@
 /** Promise 3: string. */
 public final class StringTest {
     public static void main(String[] arguments) {
-        StringShades x = Check.withShades(3);
+        Used x = Check.withShades(3);
         Check.due("no shade 3 to pull up", x.string(8, 0), Check.INVALID);
         Check.due("no shade 3 to pull down", x.string(0, 8), Check.INVALID);
         Check.due("a shade that is and one that is not", x.string(9, 2), Check.INVALID);
@@ -24,7 +24,7 @@ public final class StringTest {
         Check.due("a wrong fifth string", x.string(0, 0), Check.INVALID);
         Check.due("there are 4", x.count(1), 4);
 
-        StringShades full = Check.withShades(8);
+        Used full = Check.withShades(8);
         Check.due("all eight shades", full.string(0xAA, 0x55), 0);
         Check.due("a ninth shade", full.string(256, 0), Check.INVALID);
         Check.end();

@@ -1,7 +1,7 @@
 /** Promises 6 and 7: tell and untell. */
 public final class TellTest {
     public static void main(String[] arguments) {
-        StringShades x = new StringShades();
+        Used x = new Used();
         Check.due("no shade", x.tell(0, 0), Check.INVALID);
         Check.due("nothing to forget", x.untell(), 0);
         Check.due("a change all the same", x.count(11), 1);

@@ -1,7 +1,7 @@
 /** Promises 19 and 20: type and clearText. */
 public final class TextTest {
     public static void main(String[] arguments) {
-        StringShades x = new StringShades();
+        Used x = new Used();
         Check.due("empty", x.clearText(), 0);
         Check.due("31", x.type(31), Check.INVALID);
         Check.due("127", x.type(127), Check.INVALID);

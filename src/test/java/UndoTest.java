@@ -9,7 +9,7 @@ public final class UndoTest {
     }
 
     private static void keepsFour() {
-        StringShades x = new StringShades();
+        Used x = new Used();
         Check.due("nothing to take back", x.undo(), Check.IMPOSSIBLE);
         x.pass(2);
         Check.due("back to the beginning", x.undo(), 0);
@@ -33,7 +33,7 @@ public final class UndoTest {
         Check.due("shades", x.count(0), 2);
     }
 
-    private static int[] look(StringShades x) {
+    private static int[] look(Used x) {
         int[] seen = new int[60];
         int place = 0;
         for (int what : new int[] {0, 1, 2, 3, 4, 5, 6, 7, 8, 9, 10, 20, 21}) {
@@ -60,7 +60,7 @@ public final class UndoTest {
 
     private static void restoresAll() {
         for (int change = 0; change < 9; change++) {
-            StringShades x = Check.withShades(2);
+            Used x = Check.withShades(2);
             x.string(1, 0);
             x.string(2, 1);
             x.set(0, 1);
@@ -84,7 +84,7 @@ public final class UndoTest {
         }
     }
 
-    private static int change(StringShades x, int which) {
+    private static int change(Used x, int which) {
         switch (which) {
             case 0: return x.shade(3, 4);
             case 1: return x.string(2, 1);
@@ -99,7 +99,7 @@ public final class UndoTest {
     }
 
     private static void leavesTheText() {
-        StringShades x = Check.withShades(1);
+        Used x = Check.withShades(1);
         Check.type(x, "pass 1;");
         Check.due("play", x.play(), 1);
         x.clearText();
@@ -113,7 +113,7 @@ public final class UndoTest {
     }
 
     private static void recordsChangesOnly() {
-        StringShades x = Check.withShades(2);
+        Used x = Check.withShades(2);
         x.string(1, 2);
         x.undo();
         Check.due("two states", x.count(11), 2);

@@ -1,7 +1,7 @@
 /** Promise 5: untie. */
 public final class UntieTest {
     public static void main(String[] arguments) {
-        StringShades x = new StringShades();
+        Used x = new Used();
         Check.due("no shade", x.untie(0), Check.INVALID);
         x.shade(6, 18);
         Check.due("none behind 0", x.untie(0), Check.INVALID);
@@ -20,8 +20,8 @@ public final class UntieTest {
         Check.end();
     }
 
-    private static StringShades knotOf(int difference) {
-        StringShades x = Check.withShades(3);
+    private static Used knotOf(int difference) {
+        Used x = Check.withShades(3);
         x.string(6, 0);
         x.string(2, 4);
         x.string(2, 0);
@@ -35,7 +35,7 @@ public final class UntieTest {
     }
 
     private static void unties() {
-        StringShades x = knotOf(1);
+        Used x = knotOf(1);
         x.pull(1, 1);
         Check.due("a jam", x.shadeOf(1, 3), 2);
         Check.due("the knot is behind 1", x.untie(0), Check.IMPOSSIBLE);
@@ -54,20 +54,20 @@ public final class UntieTest {
     }
 
     private static void needsLikeHeights() {
-        StringShades x = knotOf(2);
+        Used x = knotOf(2);
         Check.due("apart by 2", x.untie(1), Check.IMPOSSIBLE);
         Check.due("the knot stays", x.shadeOf(1, 3), 1);
-        StringShades y = knotOf(3);
+        Used y = knotOf(3);
         Check.due("apart by 3", y.untie(1), Check.IMPOSSIBLE);
 
-        StringShades z = Check.withShades(2);
+        Used z = Check.withShades(2);
         z.string(3, 0);
         z.string(1, 2);
         z.set(0, 1);
         z.pull(0, 3);
         z.pull(1, -1);
         Check.due("the upper one higher by 2", z.untie(0), Check.IMPOSSIBLE);
-        StringShades level = Check.withShades(2);
+        Used level = Check.withShades(2);
         level.string(1, 0);
         level.string(2, 1);
         level.set(0, 1);

@@ -1,7 +1,7 @@
 /** Promise 13: would. */
 public final class WouldTest {
     public static void main(String[] arguments) {
-        StringShades x = new StringShades();
+        Used x = new Used();
         Check.due("no string", x.would(0, 1, 0), Check.INVALID);
         for (int shade = 0; shade < 3; shade++) {
             x.shade(6, 18);
@@ -41,7 +41,7 @@ public final class WouldTest {
         Check.end();
     }
 
-    private static void wrong(StringShades x) {
+    private static void wrong(Used x) {
         Check.due("string -1", x.would(-1, 1, 0), Check.INVALID);
         Check.due("string 3", x.would(3, 1, 0), Check.INVALID);
         Check.due("0 steps", x.would(0, 0, 0), Check.INVALID);
