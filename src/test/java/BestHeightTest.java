@@ -40,7 +40,47 @@ public final class BestHeightTest {
         x.shade(3, 35);
         best(x, 3, 0, 0);
         Check.due("reading is no change", x.undo(), 3);
+        asStandingThere();
+        whateverItIsNow();
         Check.end();
+    }
+
+    /** "if it stood there all day": each height is tried out by standing there, for all wants and leeways. */
+    private static void asStandingThere() {
+        for (int want = 0; want <= 36; want++) {
+            for (int leeway = 0; leeway <= 36; leeway++) {
+                int best = 0;
+                int most = 0;
+                for (int height = 0; height <= 9; height++) {
+                    int hours = hoursAt(want, leeway, height);
+                    // "of several the lowest"
+                    best = hours > most ? height : best;
+                    most = Math.max(hours, most);
+                }
+                new Used("shade(" + want % 24 + "," + want + ") set(1," + leeway + ") bestHeight(0,0)=" + best
+                        + " bestHeight(0,1)=" + most);
+            }
+        }
+    }
+
+    private static int hoursAt(int want, int leeway, int height) {
+        Used x = new Used("shade(" + want % 24 + "," + want + ") string(1,0) set(1," + leeway + ")");
+        if (height > 0) {
+            x.pull(0, height);
+        }
+        return x.pass(24);
+    }
+
+    private static void whateverItIsNow() {
+        String best = "bestHeight(0,0)=2 bestHeight(0,1)=4 ";
+        new Used("shade(12,18) string(1,0) " + best + "pull(0,9) " + best + "pass(7) " + best + "pass(24) " + best
+                + "tell(0,3) " + best + "shade(6,0) " + best);
+        // no height is well at all, or each is
+        new Used("shade(12,35) set(1,0) bestHeight(0,0)=0 bestHeight(0,1)=0");
+        new Used("shade(12,18) set(1,18) bestHeight(0,0)=0 bestHeight(0,1)=24");
+        new Used("shade(12,36) set(1,36) bestHeight(0,0)=0 bestHeight(0,1)=24");
+        // only when it is closed
+        new Used("shade(12,0) set(1,0) bestHeight(0,0)=9 bestHeight(0,1)=24");
     }
 
     private static void best(Used x, int shade, int height, int hours) {
