@@ -880,7 +880,7 @@ public final class StringShades {
         }
 
         void append(char sign) {
-            if (length < MOST_CHARACTERS) {
+            if (length >= 0 && length < MOST_CHARACTERS) {
                 signs[length] = sign;
                 length++;
             }

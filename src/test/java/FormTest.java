@@ -36,7 +36,11 @@ public final class FormTest {
     /** "There is a text of at most 60 characters, initially empty"; "NOT_FOUND .. (also if it is empty)" */
     private static void emptyText() {
         new Used("count(12)=0 fault(0)=NONE fault(1)=NONE fault(2)=NONE clearText()=0 count(12)=0 play()=0 count(12)=0");
-        new Used(GREENHOUSE + "type('x') clearText()=1 fault(0)=NONE fault(1)=NONE fault(2)=NONE play()=0 clearText()=0");
+        // a text that is emptied has neither the fault nor the orders that it had
+        new Used(GREENHOUSE + "type('x') fault(0)=0 fault(1)=1 fault(2)=0 play()=IMPOSSIBLE clearText()=1 fault(0)=NONE "
+                + "fault(1)=NONE fault(2)=NONE play()=0 clearText()=0");
+        new Used(GREENHOUSE + "type('pass 1;') fault(0)=NONE play()=1 clearText()=7 fault(0)=NONE play()=0 count(6)=1");
+        new Used(GREENHOUSE + "type('pass 1;pull') fault(0)=7 fault(2)=4 clearText()=11 type('pull') fault(0)=0 fault(2)=4");
     }
 
     /** "of an order that the text ends too early it is its length"; within its word the cause is 0 */

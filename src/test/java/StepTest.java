@@ -144,6 +144,9 @@ public final class StepTest {
         new Used(at8 + "string(2,0)=2 pull(2,1)=3 shadeOf(1,0)=7 pull(2,1)=0 shadeOf(1,0)=7 shadeOf(0,0)=9");
         // down it may go
         new Used(at8 + "pull(0,1)=3 pull(0,-1)=3 shadeOf(0,0)=8 shadeOf(1,0)=6");
+        // two of them stand at 9
+        new Used(THREE + "string(7,0)=0 string(5,2)=1 string(2,0)=2 set(0,2)=4 pull(0,5)=7 pull(1,1)=7 pull(0,3)=7 "
+                + "shadeOf(0,0)=9 shadeOf(1,0)=7 shadeOf(2,0)=9 pull(0,1)=0 pull(2,1)=0 shadeOf(1,0)=7 pull(2,-1)=7");
         // one of another group that stands at 9 holds nobody
         new Used(THREE + "string(7,0)=0 string(1,0)=1 pull(1,9)=1 pull(0,3)=6 shadeOf(0,0)=9 shadeOf(1,0)=3");
     }
@@ -157,6 +160,9 @@ public final class StepTest {
         new Used(at1 + "string(0,1)=2 pull(2,1)=3 shadeOf(0,0)=2 pull(2,1)=0 shadeOf(0,0)=2 shadeOf(1,0)=0");
         // up it may go
         new Used(at1 + "pull(0,-1)=3 pull(0,1)=3 shadeOf(0,0)=3 shadeOf(1,0)=1");
+        // two of them stand at 0
+        new Used(THREE + "string(7,0)=0 string(2,5)=1 string(2,0)=2 set(0,2)=4 pull(0,5)=7 pull(1,1)=7 pull(0,-4)=7 "
+                + "shadeOf(0,0)=0 shadeOf(1,0)=2 shadeOf(2,0)=0 pull(0,-1)=0 pull(2,-1)=0 shadeOf(1,0)=2 pull(2,1)=7");
         // one of another group that stands at 0 holds nobody
         new Used(THREE + "string(6,0)=0 string(0,7)=1 pull(0,3)=6 pull(1,2)=6 shadeOf(0,0)=0 shadeOf(1,0)=1");
     }

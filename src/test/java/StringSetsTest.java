@@ -2,7 +2,7 @@
  * Promise 3, the sets of a string: "INVALID_ARGUMENT if a set has a bit for no shade, both have the
  * same shade, or both are empty".
  */
-public final class SetsTest {
+public final class StringSetsTest {
     public static void main(String[] arguments) {
         bitsForNoShade();
         theSameShadeInBoth();
