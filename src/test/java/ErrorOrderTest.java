@@ -27,7 +27,8 @@ public final class ErrorOrderTest {
                 + "shade(24,37)=INVALID shade(6,18)=LIMIT");
         new Used(EIGHT + "string(1,2) ".repeat(4) + "string(0,0)=INVALID string(1,1)=INVALID string(256,0)=INVALID "
                 + "string(0,256)=INVALID string(-1,0)=INVALID string(255,128)=INVALID string(1,2)=LIMIT");
-        new Used("shade(6,18) " + "string(1,0) ".repeat(4) + "string(2,0)=INVALID string(0,2)=INVALID string(1,0)=LIMIT");
+        new Used("shade(6,18) " + "string(1,0) ".repeat(4) + "string(2,0)=INVALID string(0,2)=INVALID "
+                + "string(1,0)=LIMIT");
         new Used("type('" + "a".repeat(60) + "') type(31)=INVALID type(127)=INVALID type(-1)=INVALID type(32)=LIMIT "
                 + "type(126)=LIMIT");
         // SunTest has pass at 20000 hours

@@ -35,12 +35,14 @@ public final class FormTest {
 
     /** "There is a text of at most 60 characters, initially empty"; "NOT_FOUND .. (also if it is empty)" */
     private static void emptyText() {
-        new Used("count(12)=0 fault(0)=NONE fault(1)=NONE fault(2)=NONE clearText()=0 count(12)=0 play()=0 count(12)=0");
+        new Used("count(12)=0 fault(0)=NONE fault(1)=NONE fault(2)=NONE clearText()=0 count(12)=0 play()=0 "
+                + "count(12)=0");
         // a text that is emptied has neither the fault nor the orders that it had
-        new Used(GREENHOUSE + "type('x') fault(0)=0 fault(1)=1 fault(2)=0 play()=IMPOSSIBLE clearText()=1 fault(0)=NONE "
-                + "fault(1)=NONE fault(2)=NONE play()=0 clearText()=0");
+        new Used(GREENHOUSE + "type('x') fault(0)=0 fault(1)=1 fault(2)=0 play()=IMPOSSIBLE clearText()=1 "
+                + "fault(0)=NONE fault(1)=NONE fault(2)=NONE play()=0 clearText()=0");
         new Used(GREENHOUSE + "type('pass 1;') fault(0)=NONE play()=1 clearText()=7 fault(0)=NONE play()=0 count(6)=1");
-        new Used(GREENHOUSE + "type('pass 1;pull') fault(0)=7 fault(2)=4 clearText()=11 type('pull') fault(0)=0 fault(2)=4");
+        new Used(GREENHOUSE + "type('pass 1;pull') fault(0)=7 fault(2)=4 clearText()=11 type('pull') fault(0)=0 "
+                + "fault(2)=4");
     }
 
     /** "of an order that the text ends too early it is its length"; within its word the cause is 0 */
@@ -119,9 +121,9 @@ public final class FormTest {
 
     /** "its letters a to z, as many as follow one another from its beginning on, are none of these words" */
     private static void lettersOfNoWord() {
-        String[] texts = {"a", "z", "pulldrop 0 1;", "pullpull", "passs 1;", "untieuntie 0;", "telltale 0 1;", "pullz 0 1;",
-            "pullaaaa", "set 0 1;", "shade 6 9;", "untell;", "undo;", "string 1 2;", "PULL 0 1;", "pulL 0 1;", "x", ";",
-            " ", "0", "~", "@", "`", "{", "[", "-pull 0 1;", "9pass 1;"};
+        String[] texts = {"a", "z", "pulldrop 0 1;", "pullpull", "passs 1;", "untieuntie 0;", "telltale 0 1;",
+            "pullz 0 1;", "pullaaaa", "set 0 1;", "shade 6 9;", "untell;", "undo;", "string 1 2;", "PULL 0 1;",
+            "pulL 0 1;", "x", ";", " ", "0", "~", "@", "`", "{", "[", "-pull 0 1;", "9pass 1;"};
         for (String text : texts) {
             badForm(text, 0, 0);
             badForm("pass 1;" + text, 7, 0);
@@ -200,10 +202,11 @@ public final class FormTest {
             Check.due("type", x.type(31 + length), length);
             Check.due("the length", x.count(12), length);
         }
-        x.run("type(32)=LIMIT type(126)=LIMIT type(31)=INVALID type(127)=INVALID count(12)=60 clearText()=60 clearText()=0 "
-                + "type(126)=1 type(31)=INVALID type(127)=INVALID count(12)=1 clearText()=1");
+        x.run("type(32)=LIMIT type(126)=LIMIT type(31)=INVALID type(127)=INVALID count(12)=60 clearText()=60 "
+                + "clearText()=0 type(126)=1 type(31)=INVALID type(127)=INVALID count(12)=1 clearText()=1");
         for (int length = 0; length <= 60; length++) {
-            new Used("type('" + "p".repeat(length) + "') count(12)=" + length + " clearText()=" + length + " count(12)=0");
+            new Used("type('" + "p".repeat(length) + "') count(12)=" + length + " clearText()=" + length
+                    + " count(12)=0");
         }
     }
 }

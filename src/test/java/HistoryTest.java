@@ -36,13 +36,14 @@ public final class HistoryTest {
     /** "A history of at most 4 states is kept" */
     private static void upTo4States() {
         new Used("pass(1) count(11)=1 pass(1) count(11)=2 pass(1) count(11)=3 pass(1) count(11)=4 count(6)=4 undo()=3 "
-                + "count(6)=3 undo()=2 count(6)=2 undo()=1 count(6)=1 undo()=0 count(6)=0 undo()=IMPOSSIBLE count(6)=0");
+                + "count(6)=3 undo()=2 count(6)=2 undo()=1 count(6)=1 undo()=0 count(6)=0 undo()=IMPOSSIBLE "
+                + "count(6)=0");
     }
 
     /** "if there are 5 states then, the oldest one is dropped" */
     private static void theFifthDropsTheOldest() {
-        new Used("pass(1) pass(1) pass(1) pass(1) pass(1) count(11)=4 count(6)=5 undo()=3 count(6)=4 undo()=2 count(6)=3 "
-                + "undo()=1 count(6)=2 undo()=0 count(6)=1 undo()=IMPOSSIBLE count(6)=1 count(11)=0");
+        new Used("pass(1) pass(1) pass(1) pass(1) pass(1) count(11)=4 count(6)=5 undo()=3 count(6)=4 undo()=2 "
+                + "count(6)=3 undo()=1 count(6)=2 undo()=0 count(6)=1 undo()=IMPOSSIBLE count(6)=1 count(11)=0");
         for (int changes = 5; changes <= 40; changes++) {
             Used x = new Used("pass(1) ".repeat(changes) + "count(11)=4");
             for (int left = 3; left >= 0; left--) {
@@ -112,9 +113,11 @@ public final class HistoryTest {
     private static void allButTheText() {
         new Used("pass(1) type('pass 1;') undo()=0 count(12)=7 play()=1 count(6)=1 clearText()=7 undo()=0 count(12)=0 "
                 + "count(6)=0");
-        new Used("type('pass 1;') pass(1) clearText()=7 type('pass 2;pass 2;') undo()=0 count(12)=14 play()=2 count(6)=4");
+        new Used("type('pass 1;') pass(1) clearText()=7 type('pass 2;pass 2;') undo()=0 count(12)=14 play()=2 "
+                + "count(6)=4");
         // a play is one change, and its text stays when it is undone
-        new Used("type('pass 1;pass 2;pass 3;') play()=3 count(11)=1 count(6)=6 undo()=0 count(6)=0 count(12)=21 play()=3");
+        new Used("type('pass 1;pass 2;pass 3;') play()=3 count(11)=1 count(6)=6 undo()=0 count(6)=0 count(12)=21 "
+                + "play()=3");
     }
 
     /** "Restores the latest state of the history, which is removed from it": it cannot be undone itself. */
@@ -124,22 +127,22 @@ public final class HistoryTest {
     }
 
     private static void errorsAreNoChanges() {
-        new Used("shade(6,18) shade(6,18) string(1,0) count(11)=3 shade(24,0)=INVALID string(4,0)=INVALID pull(1,1)=INVALID "
-                + "pull(0,0)=INVALID untie(0)=IMPOSSIBLE untie(1)=INVALID tell(2,0)=INVALID tell(0,10)=INVALID "
-                + "pass(25)=INVALID set(2,1)=INVALID set(0,10)=INVALID type('x') play()=IMPOSSIBLE type(127)=INVALID "
-                + "count(11)=3 undo()=2 count(1)=0 undo()=1 count(0)=1");
+        new Used("shade(6,18) shade(6,18) string(1,0) count(11)=3 shade(24,0)=INVALID string(4,0)=INVALID "
+                + "pull(1,1)=INVALID pull(0,0)=INVALID untie(0)=IMPOSSIBLE untie(1)=INVALID tell(2,0)=INVALID "
+                + "tell(0,10)=INVALID pass(25)=INVALID set(2,1)=INVALID set(0,10)=INVALID type('x') "
+                + "play()=IMPOSSIBLE type(127)=INVALID count(11)=3 undo()=2 count(1)=0 undo()=1 count(0)=1");
     }
 
     private static void readingIsNoChange() {
-        new Used("shade(6,18) string(1,0) tell(0,3)=0 count(11)=3 shadeOf(0,0)=0 stringOf(0,0)=1 groupAt(0)=1 would(0,1,0)=1 "
-                + "leastPulls(-1)=3 reallyDo()=1 bestHeight(0,0) count(0)=1 fault(0)=NONE type('a') clearText()=1 "
-                + "count(11)=3 undo()=2 shadeOf(0,8)=NONE undo()=1 count(1)=0");
+        new Used("shade(6,18) string(1,0) tell(0,3)=0 count(11)=3 shadeOf(0,0)=0 stringOf(0,0)=1 groupAt(0)=1 "
+                + "would(0,1,0)=1 leastPulls(-1)=3 reallyDo()=1 bestHeight(0,0) count(0)=1 fault(0)=NONE type('a') "
+                + "clearText()=1 count(11)=3 undo()=2 shadeOf(0,8)=NONE undo()=1 count(1)=0");
     }
 
     /** A shade or string that comes back behind undo is a new one. */
     private static void aNewShadeBehindUndo() {
-        new Used("shade(6,18) string(1,0) undo()=1 undo()=0 shade(7,20)=0 string(0,1)=0 stringOf(0,0)=0 stringOf(0,1)=1 "
-                + "shadeOf(0,1)=7 shadeOf(0,2)=20");
+        new Used("shade(6,18) string(1,0) undo()=1 undo()=0 shade(7,20)=0 string(0,1)=0 stringOf(0,0)=0 "
+                + "stringOf(0,1)=1 shadeOf(0,1)=7 shadeOf(0,2)=20");
         new Used("shade(6,36) string(1,0) pull(0,5) tell(0,3) undo()=3 undo()=2 undo()=1 undo()=0 shade(8,0)=0 "
                 + "shadeOf(0,0)=0 shadeOf(0,8)=NONE string(1,0)=0 stringOf(0,2)=100000 stringOf(0,3)=0");
         new Used("shade(6,36) pass(2) undo()=1 undo()=0 shade(6,36)=0 shadeOf(0,6)=0 shadeOf(0,7)=0 count(6)=0");

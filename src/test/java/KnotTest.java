@@ -60,7 +60,8 @@ public final class KnotTest {
     /** "with the depth 0 it is gone": both go their own ways, and no longer hang together */
     private static void gone() {
         new Used(TWO + TIED_1_APART + "tell(0,9)=0 shadeOf(0,9)=2 groupAt(0)=3 count(4)=1 untie(0)=0 shadeOf(0,9)=0 "
-                + "groupAt(0)=1 groupAt(1)=2 count(4)=2 count(2)=0 count(10)=1 pull(2,1)=1 shadeOf(0,0)=4 shadeOf(1,0)=4");
+                + "groupAt(0)=1 groupAt(1)=2 count(4)=2 count(2)=0 count(10)=1 pull(2,1)=1 shadeOf(0,0)=4 "
+                + "shadeOf(1,0)=4");
         // with the depth 1 it is not
         new Used(TWO + TIED_1_APART + "pull(1,1)=0 untie(0)=1 groupAt(0)=3 count(2)=1 pull(2,1)=3 shadeOf(1,0)=5");
         // one that is gone lets a new one come

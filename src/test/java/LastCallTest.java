@@ -47,8 +47,8 @@ public final class LastCallTest {
 
     /** "how often groups have jammed by it so far": four groups in each step */
     private static void manyJams() {
-        Used x = new Used("shade(6,18) ".repeat(8) + "string(255,0) string(153,102) set(0,2) pull(0,5) pull(1,1) count(2)=4 "
-                + "type('" + "pull 1 9;".repeat(6) + "')");
+        Used x = new Used("shade(6,18) ".repeat(8) + "string(255,0) string(153,102) set(0,2) pull(0,5) pull(1,1) "
+                + "count(2)=4 type('" + "pull 1 9;".repeat(6) + "')");
         int plays = 0;
         while (x.calls() < Used.MOST_CALLS - 1) {
             x.play();

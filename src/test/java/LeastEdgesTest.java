@@ -71,7 +71,8 @@ public final class LeastEdgesTest {
     /** Four strings by 9 steps each. */
     private static void greatestSum() {
         String four = "shade(6,18) ".repeat(4) + "string(1,0) string(2,0) string(0,4) string(8,0) ";
-        new Used(four + "pull(3,9) tell(0,9) tell(1,9) tell(2,9) tell(3,0) " + least(36, 9, 9, -9, -9) + "reallyDo()=1");
+        new Used(four + "pull(3,9) tell(0,9) tell(1,9) tell(2,9) tell(3,0) "
+                + least(36, 9, 9, -9, -9) + "reallyDo()=1");
         new Used(four + "tell(3,9) " + least(9, 0, 0, 0, 9) + "reallyDo()=1");
         String eight = "shade(6,18) ".repeat(8) + "string(17,0) string(34,0) string(68,0) string(136,0) ";
         StringBuilder all = new StringBuilder(eight);
@@ -148,7 +149,8 @@ public final class LeastEdgesTest {
     private static void noSuchPulls() {
         // no string, none that pulls the shade, and two shades that only go together
         new Used("shade(6,18) tell(0,1) leastPulls(-1)=NONE reallyDo()=NONE");
-        new Used("shade(6,18) shade(6,18) string(2,0) tell(0,1) leastPulls(-1)=NONE leastPulls(0)=NONE reallyDo()=NONE");
+        new Used("shade(6,18) shade(6,18) string(2,0) tell(0,1) leastPulls(-1)=NONE leastPulls(0)=NONE "
+                + "reallyDo()=NONE");
         new Used("shade(6,18) shade(6,18) string(3,0) tell(0,1) tell(1,2) leastPulls(-1)=NONE leastPulls(0)=NONE "
                 + "reallyDo()=NONE tell(1,1) " + least(1, 1) + "reallyDo()=1");
         new Used("shade(6,18) shade(6,18) string(3,0) string(1,2) tell(0,1) tell(1,0) leastPulls(-1)=NONE "
@@ -167,9 +169,11 @@ public final class LeastEdgesTest {
     /** "done string by string": in the order of their numbers, each with all its steps */
     private static void reallyStringByString() {
         // 0 has to go up with 1 by string 0, then 1 down by string 1
-        new Used("shade(6,18) shade(6,18) string(3,0) string(0,2) tell(0,4) tell(1,1) " + least(7, 4, 3) + "reallyDo()=1");
+        new Used("shade(6,18) shade(6,18) string(3,0) string(0,2) tell(0,4) tell(1,1) "
+                + least(7, 4, 3) + "reallyDo()=1");
         // the other way round 1 would go down at 0, which it cannot
-        new Used("shade(6,18) shade(6,18) string(0,2) string(3,0) tell(0,4) tell(1,1) " + least(7, 3, 4) + "reallyDo()=0");
+        new Used("shade(6,18) shade(6,18) string(0,2) string(3,0) tell(0,4) tell(1,1) "
+                + least(7, 3, 4) + "reallyDo()=0");
         // at 9 the same: 1 would go up first
         new Used("shade(6,18) shade(6,18) string(2,0) string(3,0) pull(1,9) tell(0,5) tell(1,8) " + least(7, 3, -4)
                 + "reallyDo()=0");

@@ -30,11 +30,11 @@ public final class PlacesTest {
 
     /** "Returns how many shades stand where told then": of all shades, not only of this one */
     private static void toldAgain() {
-        new Used("shade(6,18) shade(6,18) shade(6,18) tell(0,0)=1 tell(1,0)=2 tell(2,1)=2 tell(2,0)=3 tell(0,9)=2 tell(0,9)=2 "
-                + "shadeOf(0,8)=9 count(7)=3 count(8)=2");
+        new Used("shade(6,18) shade(6,18) shade(6,18) tell(0,0)=1 tell(1,0)=2 tell(2,1)=2 tell(2,0)=3 tell(0,9)=2 "
+                + "tell(0,9)=2 shadeOf(0,8)=9 count(7)=3 count(8)=2");
         // it comes to where it is told, and leaves again
-        new Used("shade(6,18) string(1,0) tell(0,3)=0 pull(0,2) count(8)=0 pull(0,1) count(8)=1 shadeOf(0,9)=1 pull(0,1) "
-                + "count(8)=0 shadeOf(0,9)=0 shadeOf(0,8)=3");
+        new Used("shade(6,18) string(1,0) tell(0,3)=0 pull(0,2) count(8)=0 pull(0,1) count(8)=1 shadeOf(0,9)=1 "
+                + "pull(0,1) count(8)=0 shadeOf(0,9)=0 shadeOf(0,8)=3");
     }
 
     /** "it is tangled if there is a knot between it and a neighbor": the lower one or the upper one */
@@ -55,10 +55,12 @@ public final class PlacesTest {
 
     /** "1 if it stands where told, 2 if it does not and is tangled, otherwise 0" */
     private static void standsThoughTangled() {
-        new Used("shade(6,18) shade(6,18) string(3,0) string(1,2) set(0,2) pull(0,5) pull(1,1) tell(0,6)=1 shadeOf(0,9)=1 "
-                + "tell(1,4)=2 shadeOf(1,9)=1 count(8)=2 count(9)=0 tell(1,5)=1 shadeOf(1,9)=2 count(8)=1 count(9)=1");
+        new Used("shade(6,18) shade(6,18) string(3,0) string(1,2) set(0,2) pull(0,5) pull(1,1) tell(0,6)=1 "
+                + "shadeOf(0,9)=1 tell(1,4)=2 shadeOf(1,9)=1 count(8)=2 count(9)=0 tell(1,5)=1 shadeOf(1,9)=2 "
+                + "count(8)=1 count(9)=1");
         // tangled, but nothing is told
-        new Used("shade(6,18) shade(6,18) string(3,0) string(1,2) set(0,2) pull(0,5) pull(1,1) shadeOf(0,9)=NONE count(9)=0");
+        new Used("shade(6,18) shade(6,18) string(3,0) string(1,2) set(0,2) pull(0,5) pull(1,1) shadeOf(0,9)=NONE "
+                + "count(9)=0");
     }
 
     /** count: "7: shades for which a height is told; 8: those of them that stand there" */
@@ -74,7 +76,7 @@ public final class PlacesTest {
 
     /** "Returns how many there were." */
     private static void forgets() {
-        new Used(EIGHT + "tell(7,9)=0 untell()=1 shadeOf(7,8)=NONE shadeOf(7,9)=NONE tell(7,0)=1 tell(0,0)=2 tell(7,9)=1 "
-                + "untell()=2 untell()=0 count(7)=0 undo()=3 undo()=2 count(7)=2 shadeOf(7,8)=9");
+        new Used(EIGHT + "tell(7,9)=0 untell()=1 shadeOf(7,8)=NONE shadeOf(7,9)=NONE tell(7,0)=1 tell(0,0)=2 "
+                + "tell(7,9)=1 untell()=2 untell()=0 count(7)=0 undo()=3 undo()=2 count(7)=2 shadeOf(7,8)=9");
     }
 }

@@ -24,9 +24,9 @@ public final class RefusedTest {
         "stringOf(2,0)", "stringOf(0,4)", "groupAt(-1)", "groupAt(8)", "would(0,0,0)", "would(0,1,4)", "would(4,1,0)",
         "would(0,9,18)", "leastPulls(-2)", "leastPulls(4)", "bestHeight(3,0)", "bestHeight(0,2)", "count(-1)",
         "count(13)", "count(22)", "type(31)", "type(127)", "type(GREATEST)", "fault(-1)", "fault(3)"};
-    private static final String[] TELLING = {"shadeOf(0,4)", "stringOf(0,2)", "groupAt(0)", "would(0,9,0)", "would(1,-9,1)",
-        "would(0,1,2)", "would(1,1,3)", "would(1,9,10)", "leastPulls(-1)", "leastPulls(0)", "reallyDo()",
-        "bestHeight(0,0)", "bestHeight(0,1)", "count(4)", "fault(0)", "fault(1)", "fault(2)"};
+    private static final String[] TELLING = {"shadeOf(0,4)", "stringOf(0,2)", "groupAt(0)", "would(0,9,0)",
+        "would(1,-9,1)", "would(0,1,2)", "would(1,1,3)", "would(1,9,10)", "leastPulls(-1)", "leastPulls(0)",
+        "reallyDo()", "bestHeight(0,0)", "bestHeight(0,1)", "count(4)", "fault(0)", "fault(1)", "fault(2)"};
 
     public static void main(String[] arguments) {
         for (String greenhouse : GREENHOUSES) {

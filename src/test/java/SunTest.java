@@ -168,8 +168,8 @@ public final class SunTest {
     }
 
     private static void oneMoreThan20000() {
-        with19944Hours("").run("pass(24)=0 pass(24)=0 pass(9)=LIMIT count(6)=19992 count(5)=6 count(11)=4 pass(24)=LIMIT "
-                + "pass(8)=0 pass(1)=LIMIT pass(24)=LIMIT count(6)=20000 count(5)=14");
+        with19944Hours("").run("pass(24)=0 pass(24)=0 pass(9)=LIMIT count(6)=19992 count(5)=6 count(11)=4 "
+                + "pass(24)=LIMIT pass(8)=0 pass(1)=LIMIT pass(24)=LIMIT count(6)=20000 count(5)=14");
         with19944Hours("").run("pass(24)=0 pass(24)=0 pass(7)=0 pass(2)=LIMIT count(6)=19999 pass(1)=0 pass(1)=LIMIT");
         // other errors come first
         with19944Hours("").run("pass(24)=0 pass(24)=0 pass(8)=0 pass(25)=INVALID pass(0)=INVALID pass(-1)=INVALID "
@@ -178,12 +178,12 @@ public final class SunTest {
 
     /** An order that would pass more than 20000 hours is not possible for the reason 3. */
     private static void limitOfOrders() {
-        with19944Hours("").run("pass(24)=0 pass(24)=0 clearText()=56 type('pass 8;') fault(0)=NONE play()=1 count(6)=20000 "
-                + "fault(0)=0 fault(1)=3 fault(2)=NONE play()=IMPOSSIBLE count(6)=20000");
-        with19944Hours("").run("pass(24)=0 pass(24)=0 clearText()=56 type('pass 9;') fault(0)=0 fault(1)=3 fault(2)=NONE "
-                + "play()=IMPOSSIBLE count(6)=19992 count(11)=4");
-        with19944Hours("").run("pass(24)=0 pass(24)=0 clearText()=56 type('pass 7;pass 1;') fault(0)=NONE type('pass 1;') "
-                + "fault(0)=14 fault(1)=3 play()=IMPOSSIBLE count(6)=19992");
+        with19944Hours("").run("pass(24)=0 pass(24)=0 clearText()=56 type('pass 8;') fault(0)=NONE play()=1 "
+                + "count(6)=20000 fault(0)=0 fault(1)=3 fault(2)=NONE play()=IMPOSSIBLE count(6)=20000");
+        with19944Hours("").run("pass(24)=0 pass(24)=0 clearText()=56 type('pass 9;') fault(0)=0 fault(1)=3 "
+                + "fault(2)=NONE play()=IMPOSSIBLE count(6)=19992 count(11)=4");
+        with19944Hours("").run("pass(24)=0 pass(24)=0 clearText()=56 type('pass 7;pass 1;') fault(0)=NONE "
+                + "type('pass 1;') fault(0)=14 fault(1)=3 play()=IMPOSSIBLE count(6)=19992");
         // hours that are 0 are no such hours even then
         with19944Hours("").run("pass(24)=0 pass(24)=0 pass(8)=0 clearText()=56 type('pass 0;') fault(0)=0 fault(1)=2");
     }

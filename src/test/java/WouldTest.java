@@ -50,8 +50,8 @@ public final class WouldTest {
             "shade(6,18) shade(6,18) string(3,0) string(1,2) string(2,0) set(0,2) pull(0,5) tell(0,7) tell(1,3)",
             "shade(6,18) shade(6,18) shade(6,18) string(7,0) string(5,2) string(1,4) set(0,2) pull(0,4) pull(1,1) "
                 + "tell(0,9) tell(2,0)",
-            "shade(6,18) shade(6,18) shade(6,18) shade(6,18) string(15,0) string(5,10) string(9,6) string(8,1) set(0,3) "
-                + "pull(0,7) pull(2,2) tell(1,2) tell(3,9)",
+            "shade(6,18) shade(6,18) shade(6,18) shade(6,18) string(15,0) string(5,10) string(9,6) string(8,1) "
+                + "set(0,3) pull(0,7) pull(2,2) tell(1,2) tell(3,9)",
         };
         for (String greenhouse : greenhouses) {
             Used size = new Used(greenhouse);
@@ -82,8 +82,9 @@ public final class WouldTest {
 
     /** At 9 and 0, with no height told, and with all 8 shades. */
     private static void ends() {
-        new Used("shade(6,18) string(1,0) would(0,-1,0)=0 would(0,-1,10)=0 would(0,9,0)=1 would(0,9,10)=9 would(0,1,3)=0 "
-                + "pull(0,9) would(0,1,0)=0 would(0,9,10)=9 would(0,-9,10)=0 would(0,-1,10)=8 would(0,1,2)=0");
+        new Used("shade(6,18) string(1,0) would(0,-1,0)=0 would(0,-1,10)=0 would(0,9,0)=1 would(0,9,10)=9 "
+                + "would(0,1,3)=0 pull(0,9) would(0,1,0)=0 would(0,9,10)=9 would(0,-9,10)=0 would(0,-1,10)=8 "
+                + "would(0,1,2)=0");
         new Used("shade(6,18) ".repeat(8) + "string(255,0) would(0,9,0)=255 would(0,9,10)=9 would(0,1,17)=1 "
                 + "would(0,1,18)=INVALID would(0,1,9)=INVALID would(0,1,4)=INVALID");
     }
