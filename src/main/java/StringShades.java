@@ -277,7 +277,7 @@ public final class StringShades {
     }
 
     private static int heightBehindTen(House house, int what) {
-        // looked at before 10 is taken away, as a very low number would wrap around
+        // looked at before 10 is taken away, so that no number can wrap around
         if (what < 10 || !house.hasShade(what - 10)) {
             return INVALID_ARGUMENT;
         }
